@@ -58,6 +58,10 @@ public final class PlayersAndStrokesTest {
     DUE.is("number is 9", x.told(0, 4), 9);
     DUE.is("aim is 24", x.told(0, 5), 24);
     DUE.is("warm is 1", x.count(1), 1);
+    DUE.is("warm 0", x.set(6, 0, 0), 1);
+    DUE.is("number 0", x.set(4, 0, 0), 9);
+    DUE.is("aim 0", x.set(5, 0, 0), 24);
+    DUE.is("all 0", x.count(1) + x.told(0, 4) + x.told(0, 5), 0);
   }
 
   private static void setRefuses() {
@@ -214,6 +218,7 @@ public final class PlayersAndStrokesTest {
     DUE.is("12 to 0", x.needs(0, 1200), 8);
     DUE.is("nowhere", x.needs(1, 707), 0);
     DUE.is("0 to 24", x.needs(1, 24), 16);
+    DUE.is("0 to 0", x.needs(1, 0), 0);
     DUE.is("24 to 0", x.needs(1, 2400), 16);
     DUE.is("4 to 5: by x", x.needs(0, 405), 16);
     DUE.is("0 to 11: by y", x.needs(0, 11), 8);

@@ -160,17 +160,19 @@ public final class SeenBallsTest {
     x.stroke(0, 0, 12);
     DUE.is("nobody wins in 40", x.drawn(7), -1);
     x.stroke(2, 0, 0);
-    int z = 7;
-    int striker = 0;
-    int want = -1;
-    for (int i = 0; i < 40 && want < 0; i++) {
-      z = z * 1103515245 + 12345;
-      if ((z >>> 9) % 2 == 1) {
-        want = striker;
+    for (int seed = -50; seed < 50; seed++) {
+      int z = seed;
+      int striker = 0;
+      int want = -1;
+      for (int i = 0; i < 40 && want < 0; i++) {
+        z = z * 1103515245 + 12345;
+        if ((z >>> 9) % 2 == 1) {
+          want = striker;
+        }
+        striker = 1 - striker;
       }
-      striker = 1 - striker;
+      DUE.is("who drops first, seed " + seed, x.drawn(seed), want);
     }
-    DUE.is("who drops first", x.drawn(7), want);
     DUE.is("in thought", x.count(1), 0);
     Due.rule(x, "flies 99; steps warm = 38; slips 0;");
     x.set(4, 1, 0);
@@ -240,6 +242,10 @@ public final class SeenBallsTest {
   private static void images() {
     MiddleOfCourt x = new MiddleOfCourt();
     DUE.is("no image", x.back(), -3);
+    DUE.is("an image of no strokes", x.image(), 0);
+    x.stroke(0, 1, 2);
+    DUE.is("back to none", x.back(), 0);
+    DUE.is("none", x.count(0), 0);
     x.stroke(0, 1, 2);
     x.stroke(3, 4, 5);
     Due.text(x, "flies 9; steps 9; slips 9;");

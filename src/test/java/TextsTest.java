@@ -124,6 +124,11 @@ public final class TextsTest {
     fault("flies far far;", 10);
     fault("flies farther;", 6);
     fault("flies fa;", 6);
+    fault("flies farz;", 6);
+    fault("flies far`;", 9);
+    fault("flies far{;", 9);
+    fault("flies 1/;", 7);
+    fault("flies 1:;", 7);
     fault("flies steps;", 6);
     fault("flies 1 2;", 8);
     fault("flies far2;", 9);
