@@ -1,7 +1,13 @@
-/** Counts answers that are as due, and tells those that are not. */
+/** Counts answers that are as due, and tells those that are not, with the promise they belong to. */
 final class Due {
+  private String where = "";
   private int right = 0;
   private int wrong = 0;
+
+  /** The promise, and the document's sentence, that the answers from here on belong to. */
+  void promise(int number, String sentence) {
+    where = "promise " + number + " [" + sentence + "]: ";
+  }
 
   void is(String call, long got, long want) {
     if (got == want) {
@@ -10,7 +16,7 @@ final class Due {
     }
     wrong++;
     if (wrong <= 20) {
-      System.out.println(call + " answered " + got + ", due is " + want);
+      System.out.println(where + call + " answered " + got + ", due is " + want);
     }
   }
 
@@ -45,5 +51,13 @@ final class Due {
     for (int i = 0; i < items.length; i++) {
       x.cell(sheet, i, items[i]);
     }
+  }
+
+  /** A court without HOMES, so that each one stays where a stroke brings him. */
+  static MiddleOfCourt homeless() {
+    MiddleOfCourt x = new MiddleOfCourt();
+    x.set(3, 0, -1);
+    x.set(3, 1, -1);
+    return x;
   }
 }
