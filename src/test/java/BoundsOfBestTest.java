@@ -13,9 +13,11 @@ public final class BoundsOfBestTest {
     promise13AnyOfSix();
     promise13AllLose();
     promise13LessBad();
+    promise13ByTurns();
     promise13AsAllIs();
     promise14Bad();
     promise14OneThreeFive();
+    promise14AnyOfSix();
     promise14None();
     promise15NoneSuch();
     promise15NoStrokes();
@@ -31,6 +33,7 @@ public final class BoundsOfBestTest {
     promise17None();
     promise17SetsOutAndC();
     promise17StepByStep();
+    promise17HomeDoesNotMatter();
     promise17WhichStroke();
     promise17NotIfItWins();
     DUE.end("BoundsOfBestTest");
@@ -153,6 +156,27 @@ public final class BoundsOfBestTest {
     best(x, 0, 2, 0, 2);
   }
 
+  /** Only one of both can WIN, who has few LEGS left; and only at one WARM. */
+  private static void promise13ByTurns() {
+    DUE.promise(13, "else of VALUE for the other one: by turns, each with what is his");
+    for (int at = 0; at < 5; at++) {
+      for (int few = 0; few < 2; few++) {
+        MiddleOfCourt x = new MiddleOfCourt();
+        x.stroke(PLAIN, 0, 0);
+        Due.rule(x, "flies (not (warm = " + at + " and legs < 400)) * 99;steps 4;slips 0;");
+        x.set(1, few, 300);
+        for (int player = 0; player < 2; player++) {
+          boolean his = (player + at) % 2 == few;
+          for (int n = 0; n <= 5; n++) {
+            int value = !his || n <= at ? 0 : at % 2 == 0 ? 1 : -1;
+            best(x, player, n, value, n == 0 ? -1 : 0);
+          }
+          DUE.is("sure(" + player + ")", x.sure(player), his && at % 2 == 0 ? at + 1 : -1);
+        }
+      }
+    }
+  }
+
   private static void promise13AsAllIs() {
     DUE.promise(13, "VALUE, as all is: CELLS, LEGS, QUICK, HOME, WARM of now");
     MiddleOfCourt x = new MiddleOfCourt();
@@ -187,6 +211,22 @@ public final class BoundsOfBestTest {
       for (int player = 0; player < 2; player++) {
         DUE.is("PLAYER " + player + ", won at WARM " + warm, wonAtWarm(warm).sure(player), want[warm]);
       }
+    }
+  }
+
+  private static void promise14AnyOfSix() {
+    DUE.promise(14, "SURE: by which VALUE is 1, whichever STROKE it is");
+    for (int warm = 0; warm <= 4; warm += 2) {
+      MiddleOfCourt x = new MiddleOfCourt();
+      for (int i = 0; i < 4; i++) {
+        x.stroke(PLAIN, 0, i == 3 ? 0 : 12);
+      }
+      x.set(3, 0, -1);
+      x.set(3, 1, -1);
+      Due.rule(x, "flies (warm < " + warm + ") * 99;steps 4;slips 0;");
+      DUE.is("by the last of four, WARM " + warm, x.sure(0), warm + 1);
+      x.set(6, 0, warm);
+      DUE.is("now", x.sure(1), 1);
     }
   }
 
@@ -238,6 +278,13 @@ public final class BoundsOfBestTest {
     stand(x, 0, 2, 2 - 14);
     x.set(5, 1, 20);
     stand(x, 0, 10, 2 - 14);
+    for (int cell = 0; cell < 25; cell++) {
+      x = new MiddleOfCourt();
+      x.stroke(PLAIN, 0, cell);
+      Due.rule(x, "flies 50;steps 1;slips 0;");
+      stand(x, 0, cell, -50);
+      stand(x, 1, cell, -50);
+    }
   }
 
   /** From 12 a STROKE to a corner flies 14, to the middle 8; one step takes 4. */
@@ -434,6 +481,36 @@ public final class BoundsOfBestTest {
     onlyOver(2, 20, 6, 10, 15, 20);
     onlyOver(12, 7, 7);
     onlyOver(12, 12);
+  }
+
+  private static void promise17HomeDoesNotMatter() {
+    DUE.promise(17, "the CELL from which it was struck: not the one to which he goes back behind it");
+    MiddleOfCourt x = new MiddleOfCourt();
+    x.stroke(PLAIN, 0, 14);
+    Due.rule(x, "flies 99;steps 0;slips 0;");
+    Due.sheet(x, 0, 0);
+    x.set(0, 1, 10);
+    x.set(0, 0, 0);
+    x.set(3, 0, 13);
+    DUE.is("HOME is in the way", x.inTheWay(0), -1);
+    x.set(0, 0, 13);
+    x.set(3, 0, 0);
+    DUE.is("he was in the way", x.inTheWay(0), 0);
+    DUE.promise(17, "that one's CELL: as he is when it is struck");
+    x = new MiddleOfCourt();
+    x.stroke(PLAIN, 0, 10);
+    x.stroke(PLAIN, 0, 14);
+    Due.rule(x, "flies 99;steps 0;slips 0;");
+    x.set(0, 0, 9);
+    x.set(3, 0, 8);
+    x.set(3, 1, 24);
+    Due.sheet(x, 0, 0, 1);
+    DUE.is("8 to 14, struck from 10", x.inTheWay(0), -1);
+    x.set(3, 0, 7);
+    x.set(5, 0, 13);
+    DUE.is("7 to 14 by 13, struck from 13", x.inTheWay(0), 1);
+    x.set(5, 0, 8);
+    DUE.is("7 to 14 by 13, struck from 8", x.inTheWay(0), -1);
   }
 
   private static void promise17WhichStroke() {

@@ -565,6 +565,8 @@ public final class BoundsOfPlayersAndStrokesTest {
       x.set(2, 1, 8);
       x.set(6, 0, 41);
       DUE.is("steps " + words[i], x.needs(0, 1704), 3 * want[i]);
+      Due.rule(x, "flies 9;steps 7 + " + words[i] + ";slips 9;");
+      DUE.is("steps 7 + " + words[i], x.needs(0, 1704), 3 * (7 + want[i]));
     }
   }
 }

@@ -16,6 +16,7 @@ public final class BoundsOfSeenBallsTest {
     promise18ByTurns();
     promise19Refused();
     promise19QuickBits();
+    promise19HisAlone();
     promise19TextBits();
     promise19WhoWins();
     promise19InThought();
@@ -30,6 +31,7 @@ public final class BoundsOfSeenBallsTest {
     promise22LowestTerms();
     promise22SeedWraps();
     promise23And24Strokes();
+    promise23NothingElse();
     promise24State();
     promise24AllThatItKeeps();
     promise24AgainAndAgain();
@@ -265,6 +267,26 @@ public final class BoundsOfSeenBallsTest {
     x.sheet(0, 0, 0);
     DUE.is("a RALLY of none: by each", x.quicks(0, 0, -1), 0x3ff);
     DUE.is("by none", x.quicks(0, 1, 0), 0);
+  }
+
+  /** A step of PLAYER 0 takes his QUICK, one of PLAYER 1 his; a ball flies 5 tenths, one goes 1 FAR. */
+  private static void promise19HisAlone() {
+    DUE.promise(19, "QUICK by which, were it his: the other one's is as it is");
+    for (int other = 0; other <= 9; other++) {
+      MiddleOfCourt x = Due.homeless();
+      x.stroke(PLAIN, 0, 11);
+      x.stroke(PLAIN, 0, 13);
+      Due.rule(x, "flies 5;steps quick;slips 0;");
+      Due.sheet(x, 0, 0, 1);
+      x.set(2, 1, other);
+      DUE.is("of 0, 1 WINS", x.quicks(0, 0, 1), other <= 5 ? 0x3c0 : 0);
+      DUE.is("of 0, nobody", x.quicks(0, 0, -1), other <= 5 ? 0x03f : 0);
+      DUE.is("of 0, 0 WINS", x.quicks(0, 0, 0), other <= 5 ? 0 : 0x3ff);
+      x.set(2, 0, other);
+      DUE.is("of 1, 0 WINS", x.quicks(0, 1, 0), 0x3c0);
+      DUE.is("of 1, 1 WINS", x.quicks(0, 1, 1), other <= 5 ? 0 : 0x03f);
+      DUE.is("of 1, nobody", x.quicks(0, 1, -1), other <= 5 ? 0x03f : 0);
+    }
   }
 
   private static void promise19TextBits() {
@@ -589,6 +611,33 @@ public final class BoundsOfSeenBallsTest {
     }
   }
 
+  private static void promise23NothingElse() {
+    DUE.promise(23, "AN IMAGE is kept: all else is as it was");
+    MiddleOfCourt x = new MiddleOfCourt();
+    x.stroke(DROP, 9, 24);
+    x.set(6, 0, 7);
+    Due.rule(x, "flies 0;steps 0;slips 0;");
+    Due.feed(x, "fl");
+    Due.sheet(x, 3, 0);
+    int[] counts = {1, 7, 2, 2, 1};
+    int[] first = {12, 500, 5, 12};
+    for (int again = 0; again < 2; again++) {
+      DUE.is("image()", x.image(), 1);
+      for (int what = 0; what < 5; what++) {
+        DUE.is("count(" + what + ")", x.count(what), counts[what]);
+      }
+      for (int what = 0; what < 4; what++) {
+        DUE.is("told(0, " + what + ")", x.told(0, what), first[what]);
+        DUE.is("told(1, " + what + ")", x.told(1, what), first[what]);
+      }
+      DUE.is("NUMBER", x.told(0, 4), 9);
+      DUE.is("AIM", x.told(0, 5), 24);
+      DUE.is("KIND", x.told(0, 6), 2);
+      DUE.is("SHEET 3", x.rally(3, 1), 1);
+      DUE.is("SHEET 2", x.rally(2, 1), -11);
+    }
+  }
+
   private static void promise24State() {
     DUE.promise(24, "STATE: there is none");
     MiddleOfCourt x = new MiddleOfCourt();
@@ -704,6 +753,9 @@ public final class BoundsOfSeenBallsTest {
       x.force(Due.text(x, "flies 0;steps 0;slips 0;"));
       DUE.is("TEXTS", x.count(2), i + 1);
       DUE.is("THE RULE", x.count(4), i);
+      x.force(0);
+      DUE.is("THE RULE", x.count(4), 0);
+      x.force(i);
     }
     for (int n = 1; n <= 160; n++) {
       x.feed(32);

@@ -13,6 +13,7 @@ public final class BoundsOfTextsTest {
     promise8EndsTooEarly();
     promise8BytesBetween();
     promise8BytesFirst();
+    promise8BytesBehind();
     promise8Words();
     promise8Numbers();
     promise8AsLongAsCanBe();
@@ -27,6 +28,7 @@ public final class BoundsOfTextsTest {
     promise8SixTexts();
     promise8FullAheadOfAll();
     promise8FaultLeavesTexts();
+    promise8LongFaultsLeaveRoom();
     promise9Force();
     DUE.end("BoundsOfTextsTest");
   }
@@ -65,7 +67,7 @@ public final class BoundsOfTextsTest {
     fault(whole(expression), 6 + place);
   }
 
-  /** What an expression tells, by the slips of a stroke: 0 to 100. */
+  /** What an expression tells, by the slips of a stroke: 0 to 100; and 20 more, so that none is cut. */
   private static void worth(String expression, int want) {
     MiddleOfCourt x = new MiddleOfCourt();
     x.stroke(0, 6, 22);
@@ -73,8 +75,11 @@ public final class BoundsOfTextsTest {
     x.set(1, 0, 77);
     x.set(2, 0, 8);
     DUE.is(expression, Due.text(x, "flies 0;steps 0;slips " + expression + ";"), 1);
+    DUE.is(expression, Due.text(x, "flies 0;steps 0;slips 20 + (" + expression + ");"), 2);
     x.force(1);
     DUE.is(expression, x.shot(0, 0, 2), want);
+    x.force(2);
+    DUE.is("20 + (" + expression + ")", x.shot(0, 0, 2), 20 + want);
   }
 
   // ---- promise 7
@@ -209,6 +214,26 @@ public final class BoundsOfTextsTest {
     }
   }
 
+  private static void promise8BytesBehind() {
+    DUE.promise(8, "TOKENS, each as long as can be: what ends a WORD, a NUMBER");
+    for (int letter = 0; letter < 256; letter++) {
+      String behindWord = "flies far" + with(letter) + ";steps 1;slips 1;";
+      String behindNumber = "flies 1" + with(letter) + ";steps 1;slips 1;";
+      boolean blank = letter == 32 || letter == 10;
+      boolean asks = ";+-*<=".indexOf(letter) >= 0;
+      if (blank) {
+        reads(behindWord);
+      } else {
+        fault(behindWord, asks ? 10 : letter >= 'a' && letter <= 'z' ? 6 : 9);
+      }
+      if (blank || letter >= '0' && letter <= '9') {
+        reads(behindNumber);
+      } else {
+        fault(behindNumber, asks ? 8 : 7);
+      }
+    }
+  }
+
   private static void promise8Words() {
     DUE.promise(8, "a WORD that is neither KEY nor NAME");
     String[] names = {"far", "warm", "legs", "quick", "number", "cell"};
@@ -218,6 +243,8 @@ public final class BoundsOfTextsTest {
       faultOf(name.substring(1), 0);
       faultOf(name + name.charAt(name.length() - 1), 0);
       faultOf(name + "a", 0);
+      faultOf(name + "z", 0);
+      faultOf("a" + name, 0);
       faultOf("z" + name, 0);
       faultOf(name.substring(0, 1).toUpperCase() + name.substring(1), 0);
       faultOf("1 + " + name.substring(0, name.length() - 1) + "z", 4);
@@ -568,6 +595,19 @@ public final class BoundsOfTextsTest {
     DUE.is("the next number", Due.text(x, whole("1")), 2);
     DUE.is("no TEXT is THE RULE by itself", x.count(4), 1);
     DUE.is("flies", x.shot(0, 0, 1), 42);
+  }
+
+  private static void promise8LongFaultsLeaveRoom() {
+    DUE.promise(8, "by a FAULT no TEXT comes: what was read of it takes no room");
+    MiddleOfCourt x = new MiddleOfCourt();
+    x.stroke(0, 0, 0);
+    String sum = "flies 1" + "+1".repeat(70) + ";!";
+    DUE.is("a long FAULT", Due.text(x, sum), -248);
+    DUE.is("and again", Due.text(x, sum), -248);
+    Due.rule(x, "flies 1" + "+1".repeat(60) + ";steps 1+1;slips 1+1+1;");
+    DUE.is("flies", x.shot(0, 0, 1), 61);
+    DUE.is("steps", x.needs(0, 1), 2);
+    DUE.is("slips", x.shot(0, 0, 2), 3);
   }
 
   // ---- promise 9
