@@ -208,10 +208,11 @@ public final class SeenBallsTest {
     MiddleOfCourt x = new MiddleOfCourt();
     DUE.is("0 of 20, above", x.chance(0, 20, 0), 0);
     DUE.is("below", x.chance(0, 20, 1), 1);
-    x.stroke(0, 0, 12);
-    x.stroke(2, 0, 0);
     int[] seeds = {0, -5, Integer.MAX_VALUE - 3, 12345678, Integer.MIN_VALUE};
     for (int seed : seeds) {
+      x = new MiddleOfCourt();
+      x.stroke(0, 0, 12);
+      x.stroke(2, 0, 0);
       for (int n = 1; n <= 20; n++) {
         int won = 0;
         for (int i = 0; i < n; i++) {

@@ -159,14 +159,14 @@ final class Twins {
   private static void items(MiddleOfCourt x, int sheet, List<Long> all) {
     int scratch = sheet == 3 ? 0 : 3;
     all.add((long) x.back());
-    x.image();
+    int strokes = x.image();
     for (int sort = 0; sort < 3; sort++) {
       all.add((long) x.strokes(sheet, sort, 0, 0));
       if (x.strokes(sheet, sort, 0, 0) == 0) {
         x.sheet(scratch, sort, 3);
         for (int i = 0; i < 40 && x.copy(sheet, i, scratch, 2, 1) == 1; i++) {
           all.add((long) x.strokes(scratch, sort, 0, 1));
-          all.add((long) x.told(x.count(0) - 1, 5));
+          all.add((long) x.told(strokes, 5));
           x.back();
         }
       }
